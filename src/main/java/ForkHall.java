@@ -287,16 +287,12 @@ public final class ForkHall {
 
     // ---- what the calls above share
 
-    private static boolean isPath(int path) {
-        return path >= 0 && path < PATHS;
-    }
-
     private static boolean isBranchNumber(int branch) {
         return branch >= 0 && branch < BRANCHES;
     }
 
     private static void requirePath(int path) {
-        if (!isPath(path)) {
+        if (path < 0 || path >= PATHS) {
             throw new IndexOutOfBoundsException("there is no such path");
         }
     }
@@ -688,9 +684,8 @@ public final class ForkHall {
 
         private void takeMoves(int likeness) {
             for (int gone = 0; gone < PATHS; gone++) {
-                for (int fresh = 0; fresh < PATHS; fresh++) {
-                    if (isFreeToLeave(gone) && isFreeToCome(fresh)
-                            && Lines.likeness(first.at(gone), second.at(fresh)) == likeness) {
+                for (int fresh = 0; fresh < PATHS && isFreeToLeave(gone); fresh++) {
+                    if (isFreeToCome(fresh) && Lines.likeness(first.at(gone), second.at(fresh)) == likeness) {
                         targets[gone] = fresh;
                         sources[fresh] = gone;
                     }

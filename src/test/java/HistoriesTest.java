@@ -151,6 +151,7 @@ public final class HistoriesTest {
         base(hall, 4, 4, 4, 1);
         base(hall, 0, 5, 0, 1);
         base(hall, 0, 0, 0, 1);
+        CHECK.same("a walk after another one", hall.isAncestorByWalking(0, 5), true);
         base(Stores.fillTo(new ForkHall(), 60), 59, 58, 58, 1);
         noSuchCommit("base, first", commit -> merged().base(commit, 0));
         noSuchCommit("base, other", commit -> merged().base(0, commit));

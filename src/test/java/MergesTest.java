@@ -203,6 +203,9 @@ public final class MergesTest {
         merges("on different paths", files(1111), files(1111, 5), files(1111, NO, 6), "1111,5,6,-,-,-,-,-");
         merges("the same on both sides", files(1111), files(1111, 5), files(1111, 5, 6), "1111,5,6,-,-,-,-,-");
         clashes("different contents on one path", files(1111), files(1111, 5), files(1111, 6), 1);
+        clashes("on the first path", files(NO, 1111), files(5, 1111), files(6, 1111), 1);
+        clashes("on the last path", files(1111), files(1111, NO, NO, NO, NO, NO, NO, 5),
+                files(1111, NO, NO, NO, NO, NO, NO, 6), 1);
         clashes("on two paths", files(1111), files(1111, 5, 7), files(1111, 6, 8), 2);
         merges("content 0", files(1111), files(1111, 0), files(1111, NO, 0), "1111,0,0,-,-,-,-,-");
     }

@@ -312,11 +312,19 @@ final class Model {
         return ancestors(other).contains(commit);
     }
 
+    boolean isAncestorByWalking(int commit, int other) {
+        return isAncestor(commit, other);
+    }
+
     int base(int commit, int other) {
         number(commit);
         number(other);
         List<Integer> bases = allBases(commit, other);
         return bases.get(bases.size() - 1);
+    }
+
+    int baseByWalking(int commit, int other) {
+        return base(commit, other);
     }
 
     int bases(int commit, int other) {

@@ -1,5 +1,8 @@
+import java.lang.reflect.InvocationTargetException;
+import java.lang.reflect.Method;
+import java.util.HashMap;
+import java.util.Map;
 import java.util.NoSuchElementException;
-import java.util.TreeMap;
 
 /** Runs of calls, the same each time, whose every answer is compared with the model's. */
 public final class ModelRunsTest {
@@ -24,7 +27,9 @@ public final class ModelRunsTest {
         "packShare ArithmeticException"};
 
     private static final Check CHECK = new Check("ModelRunsTest");
-    private static final TreeMap<String, Integer> SEEN = new TreeMap<>();
+    private static final Map<String, Integer> SEEN = new HashMap<>();
+    private static final Map<String, Method> OF_HALL = methodsOf(ForkHall.class, ForkHall.class);
+    private static final Map<String, Method> OF_MODEL = methodsOf(Model.class, ForkHall.class);
 
     private long seed;
     private final int paths;
@@ -64,10 +69,11 @@ public final class ModelRunsTest {
             int b = argument(name, 1);
             int c = argument(name, 2);
             int before = model.commits();
-            String due = answer(() -> ask(model, name, a, b, c));
-            String got = answer(() -> ask(hall, name, a, b, c));
+            String due = ask(model, OF_MODEL.get(name), a, b, c);
+            String got = ask(hall, OF_HALL.get(name), a, b, c);
             if (!got.equals(due)) {
-                CHECK.same("run " + run + " call " + call + ": " + name + "(" + a + ", " + b + ", " + c + ")", got, due);
+                String told = name + "(" + a + ", " + b + ", " + c + ")";
+                CHECK.same("run " + run + " call " + call + ": " + told, got, due);
                 return;
             }
             note(name, due, before);
@@ -80,8 +86,10 @@ public final class ModelRunsTest {
         String outcome;
         if (due.startsWith("java")) {
             outcome = due.substring(due.lastIndexOf('.') + 1);
+        } else if (due.equals("true") || due.equals("false")) {
+            outcome = due;
         } else if (name.equals("bases") || name.equals("conflicts")) {
-            outcome = due.length() > 1 || due.charAt(0) > '1' ? "several" : due;
+            outcome = Integer.parseInt(due) > 1 ? "several" : due;
         } else {
             outcome = model.commits() > before ? "new" : "old";
         }
@@ -172,87 +180,33 @@ public final class ModelRunsTest {
         return content;
     }
 
-    private interface Question {
-        String ask();
-    }
-
-    private static String answer(Question question) {
+    /** Takes as many of the arguments as the method has; an exception is answered by its class's name. */
+    private static String ask(Object store, Method method, int... arguments) {
+        Object[] taken = new Object[method.getParameterCount()];
+        for (int i = 0; i < taken.length; i++) {
+            taken[i] = arguments[i];
+        }
         try {
-            return question.ask();
-        } catch (RuntimeException e) {
-            return e.getClass().getName();
+            return method.invoke(store, taken).toString();
+        } catch (InvocationTargetException e) {
+            return e.getCause().getClass().getName();
+        } catch (IllegalAccessException e) {
+            throw new IllegalStateException(e);
         }
     }
 
-    private static String ask(ForkHall x, String name, int a, int b, int c) {
-        return switch (name) {
-            case "write" -> "" + x.write(a, b);
-            case "erase" -> "" + x.erase(a);
-            case "move" -> "" + x.move(a, b);
-            case "content" -> "" + x.content(a);
-            case "changedPaths" -> "" + x.changedPaths();
-            case "commit" -> "" + x.commit();
-            case "branch" -> "" + x.branch(a);
-            case "checkOut" -> "" + x.checkOut(a);
-            case "reset" -> "" + x.reset(a);
-            case "merge" -> "" + x.merge(a);
-            case "putOnto" -> "" + x.putOnto(a);
-            case "currentBranch" -> "" + x.currentBranch();
-            case "head" -> "" + x.head(a);
-            case "commits" -> "" + x.commits();
-            case "contentIn" -> "" + x.contentIn(a, b);
-            case "parentOf" -> "" + x.parentOf(a, b);
-            case "generation" -> "" + x.generation(a);
-            case "isAncestor" -> x.isAncestor(a, b) ? "1" : "0";
-            case "isAncestorByWalking" -> x.isAncestorByWalking(a, b) ? "1" : "0";
-            case "base" -> "" + x.base(a, b);
-            case "baseByWalking" -> "" + x.baseByWalking(a, b);
-            case "bases" -> "" + x.bases(a, b);
-            case "movedTo" -> "" + x.movedTo(a, b, c);
-            case "conflicts" -> "" + x.conflicts(a, b);
-            case "lastChange" -> "" + x.lastChange(a);
-            case "packed" -> "" + x.packed();
-            case "depthOf" -> "" + x.depthOf(a);
-            case "packedFrom" -> "" + x.packedFrom(a);
-            case "packSize" -> "" + x.packSize();
-            case "packShare" -> "" + x.packShare();
-            case "meanFiles" -> "" + x.meanFiles();
-            default -> throw new IllegalArgumentException(name);
-        };
-    }
-
-    private static String ask(Model x, String name, int a, int b, int c) {
-        return switch (name) {
-            case "write" -> "" + x.write(a, b);
-            case "erase" -> "" + x.erase(a);
-            case "move" -> "" + x.move(a, b);
-            case "content" -> "" + x.content(a);
-            case "changedPaths" -> "" + x.changedPaths();
-            case "commit" -> "" + x.commit();
-            case "branch" -> "" + x.branch(a);
-            case "checkOut" -> "" + x.checkOut(a);
-            case "reset" -> "" + x.reset(a);
-            case "merge" -> "" + x.merge(a);
-            case "putOnto" -> "" + x.putOnto(a);
-            case "currentBranch" -> "" + x.currentBranch();
-            case "head" -> "" + x.head(a);
-            case "commits" -> "" + x.commits();
-            case "contentIn" -> "" + x.contentIn(a, b);
-            case "parentOf" -> "" + x.parentOf(a, b);
-            case "generation" -> "" + x.generation(a);
-            case "isAncestor", "isAncestorByWalking" -> x.isAncestor(a, b) ? "1" : "0";
-            case "base", "baseByWalking" -> "" + x.base(a, b);
-            case "bases" -> "" + x.bases(a, b);
-            case "movedTo" -> "" + x.movedTo(a, b, c);
-            case "conflicts" -> "" + x.conflicts(a, b);
-            case "lastChange" -> "" + x.lastChange(a);
-            case "packed" -> "" + x.packed();
-            case "depthOf" -> "" + x.depthOf(a);
-            case "packedFrom" -> "" + x.packedFrom(a);
-            case "packSize" -> "" + x.packSize();
-            case "packShare" -> "" + x.packShare();
-            case "meanFiles" -> "" + x.meanFiles();
-            default -> throw new IllegalArgumentException(name);
-        };
+    private static Map<String, Method> methodsOf(Class<?> store, Class<?> face) {
+        Map<String, Method> methods = new HashMap<>();
+        for (Method method : face.getMethods()) {
+            if (method.getDeclaringClass() == face) {
+                try {
+                    methods.put(method.getName(),
+                            store.getDeclaredMethod(method.getName(), method.getParameterTypes()));
+                } catch (NoSuchMethodException e) {
+                    throw new IllegalStateException(e);
+                }
+            }
+        }
+        return methods;
     }
 }

@@ -83,6 +83,9 @@ public final class RewritesTest {
         CHECK.same("put onto it again", hall.putOnto(1), 3);
         CHECK.same("the same commits", hall.head(0), 8);
         CHECK.same("none is new", hall.commits(), 9);
+        hall.reset(2);
+        CHECK.same("one commit after three", hall.putOnto(1), 1);
+        CHECK.same("and no more than that", hall.head(0), 6);
     }
 
     /** A merge is applied as its change over its first parent, and only first parents are followed. */
