@@ -1,15 +1,32 @@
+import java.util.List;
 import java.util.function.Consumer;
+import java.util.function.Function;
 import java.util.function.Supplier;
 import java.util.function.ToLongFunction;
 
 /** Counts what one test program finds, and ends it with exit code 1 if anything was wrong. */
 final class Check {
+    static final String INDEX = IndexOutOfBoundsException.class.getName();
+    static final String ARGUMENT = IllegalArgumentException.class.getName();
+    static final String NO_ELEMENT = java.util.NoSuchElementException.class.getName();
+    static final String STATE = IllegalStateException.class.getName();
+    static final String UNSUPPORTED = UnsupportedOperationException.class.getName();
+    static final String ARITHMETIC = ArithmeticException.class.getName();
+
     private final String name;
     private int passed;
     private int failed;
+    private String sentence = "";
+    private int countedBefore;
 
     Check(String name) {
         this.name = name;
+    }
+
+    /** What is checked from here on belongs to this sentence of the document. */
+    void sentence(String text) {
+        endSentence();
+        sentence = text;
     }
 
     void same(String what, long got, long due) {
@@ -40,13 +57,31 @@ final class Check {
     void refuses(String what, Class<? extends RuntimeException> due, Supplier<ForkHall> maker,
             Consumer<ForkHall> call) {
         ForkHall called = maker.get();
-        ForkHall twin = maker.get();
         same(what, thrownBy(() -> call.accept(called)), due.getName());
-        same(what + ", and changes nothing", State.of(called), State.of(twin));
+        changesNothing(what, maker, call);
+    }
+
+    void changesNothing(String what, Supplier<ForkHall> maker, Consumer<ForkHall> call) {
+        List<String> after = State.whole(() -> {
+            ForkHall called = maker.get();
+            thrownBy(() -> call.accept(called));
+            return called;
+        });
+        List<String> due = State.whole(maker);
+        same(what + ": parts of the state", after.size(), due.size());
+        for (int part = 0; part < Math.min(after.size(), due.size()); part++) {
+            same(what + ", and changes nothing, part " + part, after.get(part), due.get(part));
+        }
     }
 
     void answers(String what, Supplier<ForkHall> maker, ToLongFunction<ForkHall> call, long due) {
         same(what, call.applyAsLong(maker.get()), due);
+    }
+
+    /** The answer, or the name of the exception, of one call of a fresh store. */
+    void tells(String what, Supplier<ForkHall> maker, Function<ForkHall, Object> call, Object due) {
+        ForkHall hall = maker.get();
+        same(what, toldBy(() -> call.apply(hall)), String.valueOf(due));
     }
 
     static String thrownBy(Runnable call) {
@@ -58,11 +93,30 @@ final class Check {
         }
     }
 
+    /** The answer as a text, or the name of the exception. */
+    static String toldBy(Supplier<Object> call) {
+        try {
+            return String.valueOf(call.get());
+        } catch (RuntimeException e) {
+            return e.getClass().getName();
+        }
+    }
+
     void end() {
+        endSentence();
         System.out.println(name + ": " + passed + " passed, " + failed + " failed");
         if (failed != 0) {
             System.exit(1);
         }
+    }
+
+    /** A sentence that nothing was checked of would be a test that tests nothing. */
+    private void endSentence() {
+        if (!sentence.isEmpty() && passed + failed == countedBefore) {
+            isTrue("something is checked", false);
+        }
+        countedBefore = passed + failed;
+        sentence = "";
     }
 
     private void count(boolean right, String what, Object got, Object due) {
@@ -70,7 +124,8 @@ final class Check {
             passed++;
         } else {
             failed++;
-            System.out.println(name + ": " + what + " answered " + got + ", due is " + due);
+            System.out.println(name + ": " + what + " answered " + got + ", due is " + due
+                    + (sentence.isEmpty() ? "" : " [" + sentence + "]"));
         }
     }
 }
