@@ -23,7 +23,7 @@ final class Check {
         this.name = name;
     }
 
-    /** What is checked from here on belongs to this sentence of the document. */
+    /** What is checked from here on belongs to this sentence of the document, or to this part of it. */
     void sentence(String text) {
         endSentence();
         sentence = text;

@@ -1,6 +1,7 @@
 import java.util.ArrayList;
 import java.util.List;
 import java.util.function.Function;
+import java.util.function.Supplier;
 
 /** Each call of the empty store, a new object, and of the full one: 60 commits, 5 branches and 8 files. */
 public final class EmptyAndFullTest {
@@ -27,6 +28,11 @@ public final class EmptyAndFullTest {
         fullHistories();
         CHECK.sentence("the full store: packing and accounts");
         fullPacks();
+        CHECK.sentence("Its calls are those of somebody who works with one store: files are written, erased and moved,"
+                + " committed, branched and merged; all others are questions about commits, paths and packs.");
+        questions("a new object", ForkHall::new);
+        questions("the full store", Stores::fullWithChanges);
+        questions("a store with a conflict", () -> Stores.withChanges(Stores.clashingAt(5)));
         CHECK.sentence("An object is used for at most 512 calls after it has been made; what later calls answer is"
                 + " free.");
         lastCalls();
@@ -204,6 +210,43 @@ public final class EmptyAndFullTest {
         full("packedFrom the first", x -> x.packedFrom(1000), Check.NO_ELEMENT);
         full("meanFiles", ForkHall::meanFiles, 59.0 * 8.0 / 60.0);
         full("packShare and packSize", x -> x.packShare() == (float) x.packSize() / 264.0f, true);
+    }
+
+    /** A question changes nothing, whether it is answered or refused. */
+    private static void questions(String what, Supplier<ForkHall> maker) {
+        ForkHall asked = maker.get();
+        int last = asked.commits() - 1;
+        int content = last > 0 ? asked.contentIn(last, 0) : 0;
+        question(what + ": content", maker, x -> x.content(0));
+        question(what + ": changedPaths", maker, ForkHall::changedPaths);
+        question(what + ": currentBranch", maker, ForkHall::currentBranch);
+        question(what + ": head", maker, x -> x.head(1));
+        question(what + ": commits", maker, ForkHall::commits);
+        question(what + ": contentIn", maker, x -> x.contentIn(last, 0));
+        question(what + ": parentOf", maker, x -> x.parentOf(last, 0));
+        question(what + ": generation", maker, x -> x.generation(last));
+        question(what + ": isAncestor", maker, x -> x.isAncestor(2, last));
+        question(what + ": isAncestorByWalking", maker, x -> x.isAncestorByWalking(2, last));
+        question(what + ": base", maker, x -> x.base(2, last));
+        question(what + ": baseByWalking", maker, x -> x.baseByWalking(2, last));
+        question(what + ": bases", maker, x -> x.bases(2, last));
+        question(what + ": movedTo", maker, x -> x.movedTo(2, last, 0));
+        question(what + ": conflicts", maker, x -> x.conflicts(2, last));
+        question(what + ": conflicts, turned", maker, x -> x.conflicts(last, 2));
+        question(what + ": lastChange", maker, x -> x.lastChange(0));
+        question(what + ": packed", maker, ForkHall::packed);
+        question(what + ": depthOf", maker, x -> x.depthOf(content));
+        question(what + ": packedFrom", maker, x -> x.packedFrom(content));
+        question(what + ": packSize", maker, ForkHall::packSize);
+        question(what + ": packShare", maker, ForkHall::packShare);
+        question(what + ": meanFiles", maker, ForkHall::meanFiles);
+    }
+
+    private static void question(String what, Supplier<ForkHall> maker, Function<ForkHall, Object> question) {
+        CHECK.changesNothing(what, maker, question::apply);
+        ForkHall asked = maker.get();
+        String first = Check.toldBy(() -> question.apply(asked));
+        CHECK.same(what + ", asked again", Check.toldBy(() -> question.apply(asked)), first);
     }
 
     /** A new content with each call, and a commit where there is room for one: the last calls answer as the first. */

@@ -83,6 +83,7 @@ public final class TermsExceptionsTest {
         return hall;
     }
 
+    /** Promise 2: no such path; the content is out of range; both. */
     private static void write() {
         for (int path : NO_PATHS) {
             index("write, the path " + path, TermsExceptionsTest::changed, x -> x.write(path, 5));
@@ -99,7 +100,7 @@ public final class TermsExceptionsTest {
         }
     }
 
-    /** A path that is none has no file either, so its pair is each outer path. */
+    /** Promise 3: no such path, which has no file either; no such file. */
     private static void erase() {
         for (int path : NO_PATHS) {
             index("erase, the path " + path, TermsExceptionsTest::changed, x -> x.erase(path));
@@ -114,6 +115,7 @@ public final class TermsExceptionsTest {
         }, x -> x.erase(0));
     }
 
+    /** Promise 4: no such path, for either; no file with the path; a file with the other path; each pair of these. */
     private static void move() {
         for (int path : NO_PATHS) {
             index("move, from path " + path, TermsExceptionsTest::changed, x -> x.move(path, 3));
@@ -133,6 +135,7 @@ public final class TermsExceptionsTest {
         state("move, in a full tree", Stores::full, x -> x.move(7, 0));
     }
 
+    /** Promise 5: no such path, which has no file either; no such file. */
     private static void content() {
         for (int path : NO_PATHS) {
             index("content, the path " + path, TermsExceptionsTest::changed, x -> x.content(path));
@@ -142,6 +145,7 @@ public final class TermsExceptionsTest {
         noElement("content, no file of a new object", ForkHall::new, x -> x.content(7));
     }
 
+    /** Promise 7: no changes; 60 commits and a new one; no changes with 60 commits. */
     private static void commit() {
         state("commit, no changes", TermsExceptionsTest::plain, ForkHall::commit);
         state("commit, no changes of a new object", ForkHall::new, ForkHall::commit);
@@ -149,7 +153,7 @@ public final class TermsExceptionsTest {
         state("commit, no changes and no room", Stores::full, ForkHall::commit);
     }
 
-    /** An outer number is of no branch that exists, so there is no pair. */
+    /** Promise 8: out of range; the branch exists. An outer number is of no branch that exists: there is no pair. */
     private static void branch() {
         for (int branch : NO_BRANCHES) {
             index("branch " + branch, TermsExceptionsTest::changed, x -> x.branch(branch));
@@ -161,6 +165,7 @@ public final class TermsExceptionsTest {
         }
     }
 
+    /** Promise 9: out of range, without and with changes; no such branch, without and with them; changes. */
     private static void checkOut() {
         for (int branch : NO_BRANCHES) {
             index("checkOut " + branch, TermsExceptionsTest::plain, x -> x.checkOut(branch));
@@ -181,6 +186,7 @@ public final class TermsExceptionsTest {
         }, x -> x.checkOut(1));
     }
 
+    /** Promise 10: no such commit, without and with changes, which are no reason to refuse. */
     private static void reset() {
         for (int commit : new int[] {-1, 4, 5, 59, 60, Integer.MIN_VALUE, Integer.MAX_VALUE}) {
             index("reset to " + commit, TermsExceptionsTest::plain, x -> x.reset(commit));
@@ -190,6 +196,7 @@ public final class TermsExceptionsTest {
         index("reset to 60 in the full store", Stores::fullWithChanges, x -> x.reset(60));
     }
 
+    /** Promise 11: out of range, no such branch, changes, a conflict; each pair of these, where both can apply. */
     private static void merge() {
         for (int branch : NO_BRANCHES) {
             index("merge " + branch, TermsExceptionsTest::plain, x -> x.merge(branch));
@@ -209,6 +216,7 @@ public final class TermsExceptionsTest {
                 Stores.files(2)), x -> x.merge(1));
     }
 
+    /** Promise 11: the head of the branch is an ancestor; with changes; with no room. */
     private static void mergeOfAnAncestor() {
         state("merge of an ancestor", TermsExceptionsTest::ahead, x -> x.merge(1));
         state("merge of an ancestor, with changes", () -> Stores.withChanges(ahead()), x -> x.merge(1));
@@ -225,6 +233,7 @@ public final class TermsExceptionsTest {
         state("merge of a new object's branch", ForkHall::new, x -> x.merge(0));
     }
 
+    /** Promise 11: a 61st commit; with each of the other reasons. */
     private static void mergeInTheFullStore() {
         Supplier<ForkHall> room = () -> Stores.mergeableAt(60);
         Supplier<ForkHall> clash = () -> Stores.clashingAt(60);
@@ -243,6 +252,7 @@ public final class TermsExceptionsTest {
                 x -> x.merge(2));
     }
 
+    /** Promise 12: out of range, no such branch, changes, a conflict; each pair of these, where both can apply. */
     private static void putOnto() {
         for (int branch : NO_BRANCHES) {
             index("putOnto " + branch, TermsExceptionsTest::plain, x -> x.putOnto(branch));
@@ -267,6 +277,7 @@ public final class TermsExceptionsTest {
         }, x -> x.putOnto(1));
     }
 
+    /** Promise 12: the current head is an ancestor; with changes; with no room. */
     private static void putOntoADescendant() {
         state("putOnto a descendant", TermsExceptionsTest::behind, x -> x.putOnto(0));
         state("putOnto a descendant, with changes", () -> Stores.withChanges(behind()), x -> x.putOnto(0));
@@ -293,6 +304,7 @@ public final class TermsExceptionsTest {
         state("putOnto a new object's branch", ForkHall::new, x -> x.putOnto(0));
     }
 
+    /** Promise 12: a 61st commit; with each of the other reasons. */
     private static void putOntoInTheFullStore() {
         Supplier<ForkHall> room = () -> Stores.mergeableAt(60);
         Supplier<ForkHall> clash = () -> Stores.clashingAt(60);
@@ -311,6 +323,7 @@ public final class TermsExceptionsTest {
                 x -> x.putOnto(2));
     }
 
+    /** Promise 14: out of range; no such branch. An outer number is of no branch, so there is no other pair. */
     private static void head() {
         for (int branch : NO_BRANCHES) {
             index("head " + branch, TermsExceptionsTest::changed, x -> x.head(branch));
@@ -325,6 +338,7 @@ public final class TermsExceptionsTest {
         return new int[] {-1, commits, 60, 64, Integer.MIN_VALUE, Integer.MAX_VALUE};
     }
 
+    /** Promise 16: no such commit; no such path; both; no such file. */
     private static void contentIn() {
         for (int commit : noCommits(4)) {
             index("contentIn, the commit " + commit, TermsExceptionsTest::changed, x -> x.contentIn(commit, 0));
@@ -343,6 +357,7 @@ public final class TermsExceptionsTest {
         noElement("contentIn, no file of the empty tree", ForkHall::new, x -> x.contentIn(0, 0));
     }
 
+    /** Promise 17: no such commit; neither 0 nor 1; both; no such parent; neither 0 nor 1 of a commit without any. */
     private static void parentOf() {
         for (int commit : noCommits(4)) {
             index("parentOf, the commit " + commit, TermsExceptionsTest::changed, x -> x.parentOf(commit, 0));
@@ -361,6 +376,7 @@ public final class TermsExceptionsTest {
         noElement("parentOf, no second parent", TermsExceptionsTest::changed, x -> x.parentOf(3, 1));
     }
 
+    /** Promise 18: no such commit. */
     private static void oneCommit() {
         for (int commit : noCommits(4)) {
             index("generation of " + commit, TermsExceptionsTest::changed, x -> x.generation(commit));
@@ -389,6 +405,7 @@ public final class TermsExceptionsTest {
         CHECK.changesNothing(name + " that is answered", TermsExceptionsTest::changed, x -> question.ask(x, 2, 3));
     }
 
+    /** Promises 19 to 25: no such commit, for either, and for both. */
     private static void twoCommits() {
         twoCommits("isAncestor", ForkHall::isAncestor);
         twoCommits("isAncestorByWalking", ForkHall::isAncestorByWalking);
@@ -399,6 +416,7 @@ public final class TermsExceptionsTest {
         twoCommits("movedTo", (hall, commit, other) -> hall.movedTo(commit, other, 0));
     }
 
+    /** Promise 24: no such commit, for either; no such path; each pair; not moved. */
     private static void movedTo() {
         for (int path : NO_PATHS) {
             index("movedTo, the path " + path, TermsExceptionsTest::changed, x -> x.movedTo(1, 2, path));
@@ -425,6 +443,7 @@ public final class TermsExceptionsTest {
                 x -> x.movedTo(1, 2, 0));
     }
 
+    /** Promise 26: no such path; no such commit. */
     private static void lastChange() {
         for (int path : NO_PATHS) {
             index("lastChange of " + path, TermsExceptionsTest::changed, x -> x.lastChange(path));
@@ -436,6 +455,7 @@ public final class TermsExceptionsTest {
         noElement("lastChange on another branch alone", () -> Stores.mergeableAt(5), x -> x.lastChange(7));
     }
 
+    /** Promises 28, 29 and 31: not packed; packed whole; nothing is packed. */
     private static void packs() {
         for (int content : new int[] {-1, 10000, 6060, 0, 9999, Integer.MIN_VALUE, Integer.MAX_VALUE}) {
             noElement("depthOf " + content, TermsExceptionsTest::changed, x -> x.depthOf(content));

@@ -12,6 +12,7 @@ public final class TermsPackingTest {
         eachOnce();
         order();
         afterRefusedCalls();
+        fullestPack();
         CHECK.sentence("A content is packed whole, with a size of 4 and a depth of 0, or by its difference from one"
                 + " that was packed before it and has a depth of at most 2, with a size of 1 plus the number of lines"
                 + " that are not the same, and a depth that is greater by 1 than that one's: by the difference of the"
@@ -104,6 +105,40 @@ public final class TermsPackingTest {
             Check.thrownBy(() -> late.putOnto(1));
             return late;
         }, x -> x.depthOf(9239), Check.NO_ELEMENT);
+    }
+
+    private static void writeAll(ForkHall hall, int first) {
+        for (int path = 0; path < 8; path++) {
+            hall.write(path, first + path);
+        }
+    }
+
+    /** 59 trees of 8 files, each content another one; 28 of the trees are made by one rewriting. */
+    private static void fullestPack() {
+        ForkHall hall = new ForkHall();
+        writeAll(hall, 0);
+        hall.commit();
+        hall.branch(1);
+        for (int step = 1; step <= 28; step++) {
+            writeAll(hall, 8 * step);
+            hall.commit();
+        }
+        hall.checkOut(1);
+        writeAll(hall, 1000);
+        hall.commit();
+        hall.checkOut(0);
+        CHECK.same("a rewriting of 28", hall.putOnto(1), 28);
+        writeAll(hall, 2000);
+        CHECK.same("the last commit", hall.commit(), 59);
+        CHECK.same("all contents", hall.packed(), 59 * 8);
+        CHECK.same("the first one", hall.depthOf(0), 0);
+        CHECK.same("the second one", hall.packedFrom(1), 0);
+        CHECK.same("the first one rewritten", hall.packedFrom(1008), 8);
+        CHECK.same("the likest one to the last one rewritten is too deep", hall.depthOf(231), 3);
+        CHECK.same("so another one is its source", hall.packedFrom(1231), 31);
+        CHECK.same("the last one", hall.packedFrom(2007), 7);
+        CHECK.same("the sum of sizes, as the model has it", hall.packSize(), 1046);
+        CHECK.sameDouble("the files", hall.meanFiles(), 59.0 * 8.0 / 60.0);
     }
 
     private static void size(int one, int other, int size, int depth) {

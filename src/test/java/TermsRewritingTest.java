@@ -234,7 +234,8 @@ public final class TermsRewritingTest {
         CHECK.same("the head of a third one", hall.head(2), 5);
         CHECK.same("the current branch", hall.currentBranch(), 0);
         CHECK.same("the work tree", State.workTree(hall), State.tree(hall, 8));
-        CHECK.same("the old commits", State.tree(hall, 5) + " on " + State.parents(hall, 5), "1122,5,-,-,-,-,-,- on 4,-");
+        CHECK.same("the old commits", State.tree(hall, 5) + " on " + State.parents(hall, 5),
+                "1122,5,-,-,-,-,-,- on 4,-");
         CHECK.same("the contents packed", hall.packed(), 5);
         CHECK.refuses("once more: nothing to put", IllegalStateException.class, () -> {
             ForkHall put = three();
