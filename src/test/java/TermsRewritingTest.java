@@ -223,6 +223,18 @@ public final class TermsRewritingTest {
         old.reset(57);
         CHECK.same("what is there needs none", old.putOnto(1), 2);
         CHECK.same("and is the head", old.head(0), 59);
+        CHECK.refuses("what is there, and then one with no room", UnsupportedOperationException.class,
+                TermsRewritingTest::twoThereAndOneMore, x -> x.putOnto(1));
+    }
+
+    /** Branch 0 has three commits, two of which were put onto branch 1 before; sixty are there. */
+    private static ForkHall twoThereAndOneMore() {
+        ForkHall hall = twoAt(57);
+        hall.putOnto(1);
+        hall.reset(56);
+        hall.write(4, 4444);
+        hall.commit();
+        return hall;
     }
 
     private static void theHeadThen() {
